@@ -393,6 +393,11 @@ public final class PromisesTest {
         is("9: right(3)", other.right(3), 0);
         is("9: right(4)", other.right(4), 6);
         is("9: right(0)", other.right(0), 0);
+        SquareRooms alike = ofSize(9, 1, 2, 3, 7, 4, 6, 5, 8);
+        // SHIFTS 6, 5, 2, 5
+        is("alike: right(1)", alike.right(1), 6);
+        is("alike: right(4)", alike.right(4), 5);
+        is("alike, none 0: right(0)", alike.right(0), 0);
         SquareRooms large = ofSize(13, 1, 2, 3, 6, 4, 11, 5, 9, 7, 12, 8, 10);
         is("13: right(1)", large.right(1), 8);
         is("13: right(0)", large.right(0), 1);
@@ -640,6 +645,14 @@ public final class PromisesTest {
         is("by the PAIRS' order", mixed.adders(0, 0), 1);
         is("by the PAIRS' order", mixed.adders(0, 1), 2);
         is("by the PAIRS' order", mixed.adders(1, 0), 6);
+        SquareRooms eleven = ofSize(11, 1, 10, 2, 9, 3, 8, 4, 7, 5, 6);
+        is("11: adders(-1, 0)", eleven.adders(-1, 0), 4);
+        int[][] dueOf11 = {{3, 5, 9, 1, 4}, {5, 1, 4, 9, 3}, {6, 10, 7, 2, 8}, {8, 6, 2, 10, 7}};
+        for (int i = 0; i < 4; i++) {
+            for (int k = 0; k < 5; k++) {
+                is("11: adders(" + i + ", " + k + ")", eleven.adders(i, k), dueOf11[i][k]);
+            }
+        }
         SquareRooms large = ofSize(13, 1, 2, 3, 6, 4, 11, 5, 9, 7, 12, 8, 10);
         is("13: a STARTER", large.is(1), 1);
         is("13: adders(-1, 0)", large.adders(-1, 0), -3);
@@ -798,6 +811,7 @@ public final class PromisesTest {
         SquareRooms x = new SquareRooms();
         is("list(0, 40)", x.list(0, 40), 1);
         x.put(0, 39, 5);
+        x.put(0, 0, 4);
         is("look(0, 39)", x.look(0, 39), 5);
         is("list(0, 41)", x.list(0, 41), -6);
         is("list(0, -1)", x.list(0, -1), -14);
@@ -809,6 +823,7 @@ public final class PromisesTest {
         is("list(LOW, 0)", x.list(LOW, 0), -1);
         is("list(0, 40) again", x.list(0, 40), 1);
         is("all 0", x.look(0, 39), 0);
+        is("all 0", x.look(0, 0), 0);
         is("list(2, 0)", x.list(2, 0), 1);
         is("no place in it", x.look(2, 0), 4000000000000000013L);
         is("list 1 is missing", x.look(1, 0), 4000000000000000011L);
@@ -911,7 +926,8 @@ public final class PromisesTest {
         is("the BOOK's of 13", x.sizes(0), 32);
         fill(x, 0, 1, 14, 2, 13, 3, 12, 4, 11, 5, 10, 6, 9, 7, 8);
         is("the BOOK's of 15", x.sizes(0), 0);
-        int[][] none = {{}, {1, 1}, {0, 1}, {1, 3}, {-1, 1}, {LOW, HIGH}, {33, 34}, {1, 2, 3, 4}, {1, 2, 1, 3},
+        int[][] none = {{}, {1, 1}, {0, 1}, {1, 3}, {-1, 1}, {LOW, HIGH}, {33, 34}, {33, 2}, {1, 34}, {-31, 2}, {1, -30},
+            {1, 2, 3, 4}, {1, 2, 1, 3},
             {1, 2, 3, 4, 5, 6}};
         for (int[] row : none) {
             fill(x, 0, row);
@@ -1040,6 +1056,8 @@ public final class PromisesTest {
         x.image();
         x.turns();
         x.adder(0, 0);
+        x.still();
+        x.turn(3, 1);
         x.turn(1, 0);
         x.cell(0, 0, -1, 0);
         x.letter('n');
