@@ -499,7 +499,9 @@ public final class SquareRooms {
         if (no != FINE) {
             return no;
         }
-        return i < 0 || i > lists.lengths[list] - numbers ? NO_PLACE : FINE;
+        // of no numbers none lacks a place, wherever i is
+        boolean haveAll = numbers < 1 || i >= 0 && i <= lists.lengths[list] - numbers;
+        return haveAll ? FINE : NO_PLACE;
     }
 
     private void turnInThought() {

@@ -811,12 +811,16 @@ final class Model {
             return -11;
         }
         List<Integer> numbers = numbers();
-        if (i < 0 || (long) i + numbers.size() > lists[list].length) {
-            return -13;
+        int[] laid = lists[list].clone();
+        long place = i;
+        for (int v : numbers) {
+            if (place < 0 || place >= laid.length) {
+                return -13;
+            }
+            laid[(int) place] = v;
+            place++;
         }
-        for (int j = 0; j < numbers.size(); j++) {
-            lists[list][i + j] = numbers.get(j);
-        }
+        lists[list] = laid;
         return numbers.size();
     }
 

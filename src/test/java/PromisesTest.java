@@ -881,10 +881,36 @@ public final class PromisesTest {
         is("look(0, 5)", x.look(0, 5), 4);
         x.list(1, 3);
         is("a shorter one", x.lays(1, 0), -13);
-        x.size(7);
-        is("no PAIRS", x.lays(1, 3), 0);
-        is("no PAIRS", x.lays(1, 0), 0);
+        is("the last that has no place", x.lays(0, 6), -13);
         refusals("lays", x, 1, 0, 0, 0, 0);
+        laysNothing();
+    }
+
+    /** With no PAIRS there are no numbers, so none lacks a place. */
+    private static void laysNothing() {
+        SquareRooms x = new SquareRooms();
+        is("no PAIRS, missing", x.lays(0, 0), -11);
+        is("no PAIRS, no LIST", x.lays(-1, 0), -1);
+        x.list(0, 0);
+        fill(x, 1, 9, 8, 7);
+        int[] places = {0, 1, 2, 3, 4, 39, 40, 41, -1, LOW, HIGH};
+        for (int i : places) {
+            is("no PAIRS: lays(0, " + i + ")", x.lays(0, i), 0);
+            is("no PAIRS: lays(1, " + i + ")", x.lays(1, i), 0);
+        }
+        is("none is laid", x.look(1, 0), 9);
+        is("none is laid", x.look(1, 2), 7);
+        is("missing yet", x.lays(2, 5), -11);
+        x.pair(1, 2);
+        is("one PAIR, no place", x.lays(0, 0), -13);
+        is("one PAIR, one place", x.lays(1, 2), -13);
+        is("one PAIR, below", x.lays(1, -1), -13);
+        is("one PAIR, two places", x.lays(1, 1), 2);
+        is("look(1, 0)", x.look(1, 0), 9);
+        is("look(1, 2)", x.look(1, 2), 2);
+        x.drop();
+        is("the PAIR went", x.lays(1, 3), 0);
+        refusals("lays nothing", x, 1, 0, 0, 0, 0);
     }
 
     private static void judge() {
