@@ -21,8 +21,11 @@ public final class FaceTest {
 
     public static void main(String[] args) throws IOException {
         Path root = Path.of(System.getProperty("project.root", "."));
-        face(Files.readString(root.resolve("../shared/DOC.md")));
-        source(Files.readString(root.resolve("src/main/java/SquareRooms.java")));
+        String document = Files.readString(root.resolve("../shared/DOC.md"));
+        String source = Files.readString(root.resolve("src/main/java/SquareRooms.java"));
+        face(document);
+        source(source);
+        sections(document, source);
         makesNothing();
         DUE.end();
     }
@@ -112,6 +115,24 @@ public final class FaceTest {
             start = isMethod ? i : start;
             DUE.holds("a method too long: line " + (i + 1), !lines[i].matches(" {4}( {4})?}") || i - start < 60 || start < 0);
         }
+    }
+
+    /** What the interface says ahead of calls stands between those of the section before and these. */
+    private static void sections(String document, String source) {
+        Matcher m = Pattern.compile("\nAhead of the calls ([^\n]*) the interface says: (---- [^\n]*)\\.\n").matcher(document);
+        int end = 0;
+        int sections = 0;
+        while (m.find()) {
+            int at = source.indexOf("// " + m.group(2) + "\n");
+            DUE.holds(m.group(2) + " stands behind the calls before", at > end);
+            for (String call : m.group(1).replaceAll("[` ]", "").split(",")) {
+                int method = Math.max(source.indexOf(" int " + call + "("), source.indexOf(" long " + call + "("));
+                DUE.holds(call + " stands behind " + m.group(2), method > at);
+                end = Math.max(end, method);
+            }
+            sections++;
+        }
+        DUE.is("sections", sections, 6);
     }
 
     /** Calls of each method, counted by what the thread's heap grows. */

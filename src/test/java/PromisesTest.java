@@ -83,29 +83,6 @@ public final class PromisesTest {
         DUE.is(call, got, want);
     }
 
-    private static SquareRooms ofSize(int n, int... numbers) {
-        SquareRooms x = new SquareRooms();
-        x.size(n);
-        for (int i = 0; i + 1 < numbers.length; i += 2) {
-            is("pair", x.pair(numbers[i], numbers[i + 1]), i / 2);
-        }
-        return x;
-    }
-
-    private static int told(SquareRooms x, String letters) {
-        for (int i = 0; i < letters.length(); i++) {
-            x.letter(letters.charAt(i));
-        }
-        return x.text();
-    }
-
-    private static void fill(SquareRooms x, int list, int... numbers) {
-        x.list(list, numbers.length);
-        for (int i = 0; i < numbers.length; i++) {
-            x.put(list, i, numbers[i]);
-        }
-    }
-
     private static void pairIs(String when, SquareRooms x, int k, int first, int second, int adder) {
         is(when + ": of(" + k + ", 0)", x.of(k, 0), first);
         is(when + ": of(" + k + ", 1)", x.of(k, 1), second);
@@ -160,7 +137,7 @@ public final class PromisesTest {
 
     private static void text() {
         SquareRooms x = new SquareRooms();
-        is("n09p..a..t..", told(x, "n09;p0102;p0806;a107;t312;t104;"), 6);
+        is("n09p..a..t..", Rooms.told(x, "n09;p0102;p0806;a107;t312;t104;"), 6);
         is("count(0)", x.count(0), 9);
         is("count(1)", x.count(1), 2);
         is("count(2)", x.count(2), 2);
@@ -168,37 +145,37 @@ public final class PromisesTest {
         pairIs("text", x, 0, 1, 2, 0);
         pairIs("text", x, 1, 8, 6, 7);
         x.cell(0, 0, 1, 2);
-        is("n09;", told(x, "n09;"), 1);
+        is("n09;", Rooms.told(x, "n09;"), 1);
         is("count(1) behind n", x.count(1), 0);
         is("count(2) behind n", x.count(2), 0);
         is("count(3) behind n", x.count(3), 0);
         x.cell(0, 0, 1, 2);
-        is("p0102; keeps THE ROOM", told(x, "p0102;"), 1);
+        is("p0102; keeps THE ROOM", Rooms.told(x, "p0102;"), 1);
         is("count(3) behind p", x.count(3), 1);
-        is("72 letters", told(x, "n03;n05;n07;n09;n11;n13;n03;n05;n07;n09;n11;n13;n03;n05;n07;n09;n11;n13;"), 18);
+        is("72 letters", Rooms.told(x, "n03;n05;n07;n09;n11;n13;n03;n05;n07;n09;n11;n13;n03;n05;n07;n09;n11;n13;"), 18);
         is("count(0)", x.count(0), 13);
         refusals("text", x, 0, 0, 0, 0, 0);
     }
 
     private static void textFaultsOfKind1() {
-        SquareRooms x = ofSize(7, 1, 2);
+        SquareRooms x = Rooms.ofSize(7, 1, 2);
         String[] wrong = {"", "x", "n", "n0", "n07", "n07:", "nn", "n0;", "n007;", "p0102", "p010;", "p01023", "a",
             "a0;", "a00;", "a001", "t0000;", "n07;;", "n07;x", "n07; ", "N07;", ";", "0", "n07;p0102;t", "p0/02;",
             "p0:02;", "n08;z", "t90;"};
         int[] place = {0, 0, 1, 2, 3, 3, 1, 2, 3, 5, 4, 5, 1, 2, 3, 4, 4, 4, 4, 4, 0, 0, 0, 11, 2, 2, 4, 3};
         for (int i = 0; i < wrong.length; i++) {
-            is("text " + wrong[i], told(x, wrong[i]), -1000 - place[i]);
+            is("text " + wrong[i], Rooms.told(x, wrong[i]), -1000 - place[i]);
             is("letters behind " + wrong[i], x.count(4), 0);
         }
         is("n07 and lacks, 72 letters",
-            told(x, "n03;n05;n07;n09;n11;n13;n03;n05;n07;n09;n11;n13;n03;n05;n07;n09;n11;p010"), -1072);
-        is("letter 255 in a text", told(x, "n07;\u00ff"), -1004);
+            Rooms.told(x, "n03;n05;n07;n09;n11;n13;n03;n05;n07;n09;n11;n13;n03;n05;n07;n09;n11;p010"), -1072);
+        is("letter 255 in a text", Rooms.told(x, "n07;\u00ff"), -1004);
         pairIs("faults of kind 1", x, 0, 1, 2, 0);
         refusals("faults of kind 1", x, 0, 0, 0, 0, 0);
     }
 
     private static void textFaultsOfKind2() {
-        SquareRooms x = ofSize(7, 1, 2);
+        SquareRooms x = Rooms.ofSize(7, 1, 2);
         x.turn(0, 2);
         x.cell(1, 1, 1, 1 + 1);
         String[] wrong = {"n00;", "n01;", "n02;", "n08;", "n14;", "n15;", "n99;", "p0001;", "p0100;", "p0701;",
@@ -207,7 +184,7 @@ public final class PromisesTest {
             "n03;p0103;"};
         int[] place = {0, 0, 0, 0, 0, 0, 0, 0, 0, 0, 0, 0, 0, 0, 0, 0, 0, 0, 0, 10, 12, 25, 4, 4, 10, 4};
         for (int i = 0; i < wrong.length; i++) {
-            is("text " + wrong[i], told(x, wrong[i]), -2000 - place[i]);
+            is("text " + wrong[i], Rooms.told(x, wrong[i]), -2000 - place[i]);
             is("letters behind " + wrong[i], x.count(4), 0);
         }
         is("SIZE stays", x.count(0), 7);
@@ -216,12 +193,12 @@ public final class PromisesTest {
         is("THE ROOM stays", x.count(3), 1);
         is("what can be UNDONE stays", x.count(5), 1);
         refusals("faults of kind 2", x, 0, 0, 0, 0, 0);
-        is("what others made is ahead of it", told(x, "a006;t512;p0605;"), 3);
+        is("what others made is ahead of it", Rooms.told(x, "a006;t512;p0605;"), 3);
         pairIs("ahead", x, 0, 1, 2, 6);
     }
 
     private static void size() {
-        SquareRooms x = ofSize(7, 1, 2);
+        SquareRooms x = Rooms.ofSize(7, 1, 2);
         x.turn(1, 1);
         x.cell(0, 0, 0, 1);
         is("size(2)", x.size(2), -4);
@@ -243,7 +220,7 @@ public final class PromisesTest {
     }
 
     private static void pair() {
-        SquareRooms x = ofSize(5);
+        SquareRooms x = Rooms.ofSize(5);
         is("pair(0, 1)", x.pair(0, 1), -4);
         is("pair(1, 0)", x.pair(1, 0), -4);
         is("pair(0, 9)", x.pair(0, 9), -4);
@@ -267,7 +244,7 @@ public final class PromisesTest {
     }
 
     private static void drop() {
-        SquareRooms x = ofSize(7, 1, 2, 3, 4);
+        SquareRooms x = Rooms.ofSize(7, 1, 2, 3, 4);
         is("drop()", x.drop(), 1);
         pairIs("drop", x, 0, 1, 2, 0);
         is("of(1, 0)", x.of(1, 0), -1);
@@ -277,7 +254,7 @@ public final class PromisesTest {
     }
 
     private static void adder() {
-        SquareRooms x = ofSize(7, 1, 2, 3, 4);
+        SquareRooms x = Rooms.ofSize(7, 1, 2, 3, 4);
         is("adder(1, 6)", x.adder(1, 6), 0);
         is("adder(1, 0)", x.adder(1, 0), 6);
         is("adder(0, 3)", x.adder(0, 3), 0);
@@ -293,7 +270,7 @@ public final class PromisesTest {
     }
 
     private static void of() {
-        SquareRooms x = ofSize(7, 2, 6, 5, 4);
+        SquareRooms x = Rooms.ofSize(7, 2, 6, 5, 4);
         x.adder(0, 3);
         int[] due = {2, 6, 3, 1, 3};
         int[] dueOther = {5, 4, 0, 2, 1};
@@ -318,17 +295,17 @@ public final class PromisesTest {
 
     private static void is() {
         areSuch("new", new SquareRooms(), 0, 0, 0, 0, 0);
-        areSuch("two of three", ofSize(7, 1, 3, 2, 6), 0, 0, 0, 0, 0);
-        areSuch("a number twice", ofSize(7, 1, 3, 2, 1, 4, 5), 1, 0, 0, 0, 0);
-        areSuch("a difference twice", ofSize(7, 1, 2, 3, 4, 5, 6), 1, 0, 0, 0, 0);
-        areSuch("all differences, not all numbers", ofSize(7, 1, 2, 1, 3, 1, 4), 1, 0, 0, 0, 0);
-        areSuch("the BOOK's pairs", ofSize(7, 1, 6, 2, 5, 3, 4), 1, 1, 0, 0, 0);
-        areSuch("sums 4, 1, 2", ofSize(7, 3, 1, 6, 2, 4, 5), 1, 1, 1, 1, 0);
-        areSuch("sums alike, none 0: 3, 8, 6, 6", ofSize(9, 1, 2, 3, 5, 7, 8, 4, 6), 1, 0, 0, 0, 0);
-        areSuch("9: a starter, sums 3, 0, 2, 4", ofSize(9, 1, 2, 3, 6, 4, 7, 5, 8), 1, 0, 0, 0, 0);
-        areSuch("13: strong", ofSize(13, 1, 2, 3, 6, 4, 11, 5, 9, 7, 12, 8, 10), 1, 1, 1, 1, 0);
-        areSuch("3", ofSize(3, 2, 1), 1, 1, 0, 0, 0);
-        SquareRooms x = ofSize(7, 1, 6, 2, 5, 3, 4);
+        areSuch("two of three", Rooms.ofSize(7, 1, 3, 2, 6), 0, 0, 0, 0, 0);
+        areSuch("a number twice", Rooms.ofSize(7, 1, 3, 2, 1, 4, 5), 1, 0, 0, 0, 0);
+        areSuch("a difference twice", Rooms.ofSize(7, 1, 2, 3, 4, 5, 6), 1, 0, 0, 0, 0);
+        areSuch("all differences, not all numbers", Rooms.ofSize(7, 1, 2, 1, 3, 1, 4), 1, 0, 0, 0, 0);
+        areSuch("the BOOK's pairs", Rooms.ofSize(7, 1, 6, 2, 5, 3, 4), 1, 1, 0, 0, 0);
+        areSuch("sums 4, 1, 2", Rooms.ofSize(7, 3, 1, 6, 2, 4, 5), 1, 1, 1, 1, 0);
+        areSuch("sums alike, none 0: 3, 8, 6, 6", Rooms.ofSize(9, 1, 2, 3, 5, 7, 8, 4, 6), 1, 0, 0, 0, 0);
+        areSuch("9: a starter, sums 3, 0, 2, 4", Rooms.ofSize(9, 1, 2, 3, 6, 4, 7, 5, 8), 1, 0, 0, 0, 0);
+        areSuch("13: strong", Rooms.ofSize(13, 1, 2, 3, 6, 4, 11, 5, 9, 7, 12, 8, 10), 1, 1, 1, 1, 0);
+        areSuch("3", Rooms.ofSize(3, 2, 1), 1, 1, 0, 0, 0);
+        SquareRooms x = Rooms.ofSize(7, 1, 6, 2, 5, 3, 4);
         int[][] rows = {{2, 4, 1}, {5, 3, 6}, {2, 4, 2}, {2, 4, 0}, {0, 0, 0}, {2, 3, 1}, {4, 4, 1}};
         for (int i = 0; i < rows.length; i++) {
             for (int k = 0; k < 3; k++) {
@@ -343,7 +320,7 @@ public final class PromisesTest {
     }
 
     private static void book() {
-        SquareRooms x = ofSize(7, 1, 2);
+        SquareRooms x = Rooms.ofSize(7, 1, 2);
         x.turn(0, 3);
         x.cell(2, 2, 0, 7);
         is("book()", x.book(), 3);
@@ -371,7 +348,7 @@ public final class PromisesTest {
     }
 
     private static void right() {
-        SquareRooms x = ofSize(7, 3, 1, 2, 6, 4, 5);
+        SquareRooms x = Rooms.ofSize(7, 3, 1, 2, 6, 4, 5);
         // BOOK: 4, 3 have difference 1; 1, 6 have 2; 5, 2 have 3
         is("right(1)", x.right(1), 1);
         is("right(2)", x.right(2), 2);
@@ -386,19 +363,19 @@ public final class PromisesTest {
         is("right(9), no STARTER", x.right(9), -6);
         is("right(-9), no STARTER", x.right(-9), -4);
         refusals("right", x, 0, 0, 1, 3, 3);
-        SquareRooms other = ofSize(9, 1, 2, 3, 6, 4, 8, 5, 7);
+        SquareRooms other = Rooms.ofSize(9, 1, 2, 3, 6, 4, 8, 5, 7);
         // BOOK: 5, 4 differ by 1; 1, 8 by 2; 6, 3 by 3; 2, 7 by 4 (2 less 7); SHIFTS 6, 6, 0, 6
         is("9: right(1)", other.right(1), 6);
         is("9: right(2)", other.right(2), 6);
         is("9: right(3)", other.right(3), 0);
         is("9: right(4)", other.right(4), 6);
         is("9: right(0)", other.right(0), 0);
-        SquareRooms alike = ofSize(9, 1, 2, 3, 7, 4, 6, 5, 8);
+        SquareRooms alike = Rooms.ofSize(9, 1, 2, 3, 7, 4, 6, 5, 8);
         // SHIFTS 6, 5, 2, 5
         is("alike: right(1)", alike.right(1), 6);
         is("alike: right(4)", alike.right(4), 5);
         is("alike, none 0: right(0)", alike.right(0), 0);
-        SquareRooms large = ofSize(13, 1, 2, 3, 6, 4, 11, 5, 9, 7, 12, 8, 10);
+        SquareRooms large = Rooms.ofSize(13, 1, 2, 3, 6, 4, 11, 5, 9, 7, 12, 8, 10);
         is("13: right(1)", large.right(1), 8);
         is("13: right(0)", large.right(0), 1);
         is("13: right(6)", large.right(6), 1);
@@ -419,7 +396,7 @@ public final class PromisesTest {
             is("at(1, " + c + ", 0)", x.at(1, c, 0), points[2 * c]);
             is("at(1, " + c + ", 1)", x.at(1, c, 1), points[2 * c + 1]);
         }
-        SquareRooms lost = ofSize(5, 1, 4, 2, 3);
+        SquareRooms lost = Rooms.ofSize(5, 1, 4, 2, 3);
         lost.adder(0, 2);
         lost.adder(1, 2);
         is("5, adders 2, 2", lost.build(), 5);
@@ -429,7 +406,7 @@ public final class PromisesTest {
         is("the second is laid", lost.at(0, 3, 1), 3);
         lost.adder(1, 0);
         is("5, adders 0, 0", lost.build(), 10);
-        SquareRooms any = ofSize(5, 1, 2, 1, 2);
+        SquareRooms any = Rooms.ofSize(5, 1, 2, 1, 2);
         any.adder(1, 1);
         is("WHOLE, no STARTER", any.build(), 5);
         is("at(4, 3, 0)", any.at(4, 3, 0), 0);
@@ -438,7 +415,7 @@ public final class PromisesTest {
     }
 
     private static void cell() {
-        SquareRooms x = ofSize(5);
+        SquareRooms x = Rooms.ofSize(5);
         is("cell(0, 0, 2, 1)", x.cell(0, 0, 2, 1), 0);
         is("cell(0, 0, 5, 0)", x.cell(0, 0, 5, 0), 1);
         is("at(0, 0, 0)", x.at(0, 0, 0), 0);
@@ -464,7 +441,7 @@ public final class PromisesTest {
     }
 
     private static void at() {
-        SquareRooms x = ofSize(13);
+        SquareRooms x = Rooms.ofSize(13);
         x.cell(12, 11, 13, 12);
         is("at(12, 11, 0)", x.at(12, 11, 0), 12);
         is("at(12, 11, 1)", x.at(12, 11, 1), 13);
@@ -480,7 +457,7 @@ public final class PromisesTest {
     }
 
     private static void faults() {
-        SquareRooms x = ofSize(5);
+        SquareRooms x = Rooms.ofSize(5);
         is("empty: faults(0, 0)", x.faults(0, 0), 6);
         is("empty: faults(1, 4)", x.faults(1, 4), 6);
         is("empty: faults(2, HIGH)", x.faults(2, HIGH), 15);
@@ -519,7 +496,7 @@ public final class PromisesTest {
         x.cell(1, 1, 2, 7);
         is("one other: indeed()", x.indeed(), 0);
         // rows and columns right, pairs not: the rows 0, 1, 2 of 3 shifts of one matching
-        SquareRooms square = ofSize(5);
+        SquareRooms square = Rooms.ofSize(5);
         int[] points = {0, 1, 2, 3, 4, 5};
         for (int r = 0; r < 5; r++) {
             for (int j = 0; j < 3; j++) {
@@ -533,7 +510,7 @@ public final class PromisesTest {
     }
 
     private static void faced() {
-        SquareRooms x = ofSize(3);
+        SquareRooms x = Rooms.ofSize(3);
         is("empty: faced()", x.faced(), 6);
         x.cell(0, 0, 0, 1);
         is("one on the diagonal", x.faced(), 6);
@@ -547,7 +524,7 @@ public final class PromisesTest {
     }
 
     private static void where() {
-        SquareRooms x = ofSize(13);
+        SquareRooms x = Rooms.ofSize(13);
         is("where(0, 13)", x.where(0, 13), -9);
         x.cell(12, 3, 0, 13);
         is("where(0, 13)", x.where(0, 13), 1203);
@@ -621,7 +598,7 @@ public final class PromisesTest {
     }
 
     private static void adders() {
-        SquareRooms x = ofSize(7, 1, 6, 2, 5, 3, 4);
+        SquareRooms x = Rooms.ofSize(7, 1, 6, 2, 5, 3, 4);
         is("adders(-1, 99)", x.adders(-1, 99), 2);
         int[][] due = {{2, 4, 1}, {5, 3, 6}, {-9, -9, -9}};
         for (int i = 0; i < 3; i++) {
@@ -641,11 +618,11 @@ public final class PromisesTest {
         x.adder(0, 6);
         is("ADDERS that are there don't matter", x.adders(0, 0), 2);
         is("of(0, 2) stays", x.of(0, 2), 6);
-        SquareRooms mixed = ofSize(7, 4, 3, 6, 1, 5, 2);
+        SquareRooms mixed = Rooms.ofSize(7, 4, 3, 6, 1, 5, 2);
         is("by the PAIRS' order", mixed.adders(0, 0), 1);
         is("by the PAIRS' order", mixed.adders(0, 1), 2);
         is("by the PAIRS' order", mixed.adders(1, 0), 6);
-        SquareRooms eleven = ofSize(11, 1, 10, 2, 9, 3, 8, 4, 7, 5, 6);
+        SquareRooms eleven = Rooms.ofSize(11, 1, 10, 2, 9, 3, 8, 4, 7, 5, 6);
         is("11: adders(-1, 0)", eleven.adders(-1, 0), 4);
         int[][] dueOf11 = {{3, 5, 9, 1, 4}, {5, 1, 4, 9, 3}, {6, 10, 7, 2, 8}, {8, 6, 2, 10, 7}};
         for (int i = 0; i < 4; i++) {
@@ -653,7 +630,7 @@ public final class PromisesTest {
                 is("11: adders(" + i + ", " + k + ")", eleven.adders(i, k), dueOf11[i][k]);
             }
         }
-        SquareRooms large = ofSize(13, 1, 2, 3, 6, 4, 11, 5, 9, 7, 12, 8, 10);
+        SquareRooms large = Rooms.ofSize(13, 1, 2, 3, 6, 4, 11, 5, 9, 7, 12, 8, 10);
         is("13: a STARTER", large.is(1), 1);
         is("13: adders(-1, 0)", large.adders(-1, 0), -3);
         refusals("adders", x, 2, 0, 2, 2, 0);
@@ -676,7 +653,7 @@ public final class PromisesTest {
     }
 
     private static void lots() {
-        SquareRooms x = ofSize(7, 1, 6, 2, 5, 3, 4);
+        SquareRooms x = Rooms.ofSize(7, 1, 6, 2, 5, 3, 4);
         // draws of the seed 1: 0 0, 0 0, 1 1, 2 0, 2 0, 0 2, 1 1
         int[] differences = {6, 6, 6, 2, 6, 2, 2};
         for (int m = 1; m <= 7; m++) {
@@ -687,10 +664,10 @@ public final class PromisesTest {
         pairIs("PAIRS stay", x, 2, 3, 4, 0);
         is("count(5)", x.count(5), 0);
         // draws of the seed 7: 0 2, 2 1, 2 2, 0 0, 0 2, 1 0; the second and the sixth leave PAIRS alike
-        SquareRooms alike = ofSize(7, 1, 2, 2, 1, 3, 4);
+        SquareRooms alike = Rooms.ofSize(7, 1, 2, 2, 1, 3, 4);
         is("alike: lots(6, 7, 0)", alike.lots(6, 7, 0), 4);
         is("alike: lots(6, 7, 1)", alike.lots(6, 7, 1), 2);
-        is("one PAIR: lots(50, LOW, 0)", ofSize(3, 1, 2).lots(50, LOW, 0), 50);
+        is("one PAIR: lots(50, LOW, 0)", Rooms.ofSize(3, 1, 2).lots(50, LOW, 0), 50);
         is("lots(0, 0, 9)", x.lots(0, 0, 9), -4);
         is("lots(LOW, 0, 0)", x.lots(LOW, 0, 0), -4);
         is("lots(51, 0, 9)", x.lots(51, 0, 9), -6);
@@ -733,36 +710,26 @@ public final class PromisesTest {
         refusals("still", x, 0, 0, 0, 0, 0);
     }
 
-    /** PAIRS 1 6, 2 5, 3 4 with ADDERS 2, 4, 1. */
-    private static SquareRooms bookTurned(int... rules) {
-        SquareRooms x = new SquareRooms();
-        x.book();
-        for (int i = 0; i < rules.length; i += 2) {
-            x.turn(rules[i], rules[i + 1]);
-        }
-        return x;
-    }
-
     private static void turned() {
-        turnedIs("no TURNS", bookTurned(), 1, 2, 5, 4);
-        turnedIs("TIMES 3", bookTurned(0, 3), 1, 6, 1, 5);
-        turnedIs("TIMES 0", bookTurned(0, 0), 2, 0, 0, 0);
-        turnedIs("TIMES 12", bookTurned(0, 12), 0, 5, 2, 3);
-        turnedIs("LESS", bookTurned(1, 5), 0, 6, 1, 5);
-        turnedIs("ABOUT", bookTurned(2, 5), 0, 3, 4, 1);
-        turnedIs("ABOUT", bookTurned(2, 0), 2, 1, 6, 2);
-        turnedIs("ROUND 1", bookTurned(3, 1), 0, 2, 5, 4);
-        turnedIs("ROUND 1", bookTurned(3, 1), 2, 1, 6, 2);
-        turnedIs("ROUND 11", bookTurned(3, 11), 0, 3, 4, 1);
-        turnedIs("SWAP 3", bookTurned(4, 3), 0, 6, 1, 2);
-        turnedIs("SWAP 4", bookTurned(4, 4), 0, 1, 6, 2);
-        turnedIs("SHARE 1", bookTurned(5, 1), 0, 1, 6, 4);
-        turnedIs("SHARE 1", bookTurned(5, 1), 2, 3, 4, 2);
-        turnedIs("SHARE 12", bookTurned(5, 12), 1, 2, 5, 4);
-        turnedIs("ROUND, ABOUT", bookTurned(3, 1, 2, 0), 0, 1, 6, 2);
-        turnedIs("ABOUT, ROUND", bookTurned(2, 0, 3, 1), 0, 2, 5, 4);
-        turnedIs("ABOUT, ROUND", bookTurned(2, 0, 3, 1), 1, 1, 6, 2);
-        SquareRooms x = bookTurned(0, 2, 4, 1, 5, 1, 3, 1, 1, 0, 2, 0);
+        turnedIs("no TURNS", Rooms.bookTurned(), 1, 2, 5, 4);
+        turnedIs("TIMES 3", Rooms.bookTurned(0, 3), 1, 6, 1, 5);
+        turnedIs("TIMES 0", Rooms.bookTurned(0, 0), 2, 0, 0, 0);
+        turnedIs("TIMES 12", Rooms.bookTurned(0, 12), 0, 5, 2, 3);
+        turnedIs("LESS", Rooms.bookTurned(1, 5), 0, 6, 1, 5);
+        turnedIs("ABOUT", Rooms.bookTurned(2, 5), 0, 3, 4, 1);
+        turnedIs("ABOUT", Rooms.bookTurned(2, 0), 2, 1, 6, 2);
+        turnedIs("ROUND 1", Rooms.bookTurned(3, 1), 0, 2, 5, 4);
+        turnedIs("ROUND 1", Rooms.bookTurned(3, 1), 2, 1, 6, 2);
+        turnedIs("ROUND 11", Rooms.bookTurned(3, 11), 0, 3, 4, 1);
+        turnedIs("SWAP 3", Rooms.bookTurned(4, 3), 0, 6, 1, 2);
+        turnedIs("SWAP 4", Rooms.bookTurned(4, 4), 0, 1, 6, 2);
+        turnedIs("SHARE 1", Rooms.bookTurned(5, 1), 0, 1, 6, 4);
+        turnedIs("SHARE 1", Rooms.bookTurned(5, 1), 2, 3, 4, 2);
+        turnedIs("SHARE 12", Rooms.bookTurned(5, 12), 1, 2, 5, 4);
+        turnedIs("ROUND, ABOUT", Rooms.bookTurned(3, 1, 2, 0), 0, 1, 6, 2);
+        turnedIs("ABOUT, ROUND", Rooms.bookTurned(2, 0, 3, 1), 0, 2, 5, 4);
+        turnedIs("ABOUT, ROUND", Rooms.bookTurned(2, 0, 3, 1), 1, 1, 6, 2);
+        SquareRooms x = Rooms.bookTurned(0, 2, 4, 1, 5, 1, 3, 1, 1, 0, 2, 0);
         // TIMES 2: 2 5 4, 4 3 1, 6 1 2; SWAP: 5 2 4, 3 4 1, 1 6 2; SHARE: 5 2 1, 3 4 2, 1 6 4;
         // ROUND: 3 4 2, 1 6 4, 5 2 1; LESS: 4 3 5, 6 1 3, 2 5 6; ABOUT
         turnedIs("six TURNS", x, 0, 2, 5, 6);
@@ -778,7 +745,7 @@ public final class PromisesTest {
     }
 
     private static void turns() {
-        SquareRooms x = bookTurned(3, 1, 0, 3);
+        SquareRooms x = Rooms.bookTurned(3, 1, 0, 3);
         is("turns()", x.turns(), 3);
         pairIs("turns", x, 0, 6, 1, 5);
         pairIs("turns", x, 1, 2, 5, 3);
@@ -790,7 +757,7 @@ public final class PromisesTest {
         is("TIMES 7 of 7", x.turns(), -3);
         is("it counts not", x.count(5), 1);
         pairIs("refused", x, 0, 6, 1, 5);
-        SquareRooms nine = ofSize(9, 3, 1);
+        SquareRooms nine = Rooms.ofSize(9, 3, 1);
         nine.turn(0, 3);
         is("a NUMBER becomes 0", nine.turns(), -3);
         is("in thought all the same", nine.turned(0, 0), 0);
@@ -852,7 +819,7 @@ public final class PromisesTest {
         is("look(3, 0)", x.look(3, 0), 4000000000000000001L);
         is("look(-1, 0)", x.look(-1, 0), 4000000000000000001L);
         is("look(2, -1)", x.look(2, -1), 4000000000000000011L);
-        fill(x, 2, -5, 6);
+        Rooms.fill(x, 2, -5, 6);
         is("look(2, 0)", x.look(2, 0), -5);
         is("look(2, 1)", x.look(2, 1), 6);
         is("look(2, 2)", x.look(2, 2), 4000000000000000013L);
@@ -862,10 +829,10 @@ public final class PromisesTest {
     }
 
     private static void lays() {
-        SquareRooms x = ofSize(7, 1, 2, 6, 4);
+        SquareRooms x = Rooms.ofSize(7, 1, 2, 6, 4);
         is("lays, missing", x.lays(0, 0), -11);
         is("lays, no LIST", x.lays(3, 0), -1);
-        fill(x, 0, 9, 9, 9, 9, 9, 9);
+        Rooms.fill(x, 0, 9, 9, 9, 9, 9, 9);
         is("lays(0, 1)", x.lays(0, 1), 4);
         int[] due = {9, 1, 2, 6, 4, 9};
         for (int i = 0; i < due.length; i++) {
@@ -892,7 +859,7 @@ public final class PromisesTest {
         is("no PAIRS, missing", x.lays(0, 0), -11);
         is("no PAIRS, no LIST", x.lays(-1, 0), -1);
         x.list(0, 0);
-        fill(x, 1, 9, 8, 7);
+        Rooms.fill(x, 1, 9, 8, 7);
         int[] places = {0, 1, 2, 3, 4, 39, 40, 41, -1, LOW, HIGH};
         for (int i : places) {
             is("no PAIRS: lays(0, " + i + ")", x.lays(0, i), 0);
@@ -914,22 +881,22 @@ public final class PromisesTest {
     }
 
     private static void judge() {
-        SquareRooms x = ofSize(7, 1, 2, 6, 4);
+        SquareRooms x = Rooms.ofSize(7, 1, 2, 6, 4);
         is("judge, missing", x.judge(2), -11);
         is("judge, no LIST", x.judge(HIGH), -1);
-        fill(x, 0, 1, 2, 6, 4);
+        Rooms.fill(x, 0, 1, 2, 6, 4);
         is("all", x.judge(0), -9);
-        fill(x, 0, 1, 2, 6);
+        Rooms.fill(x, 0, 1, 2, 6);
         is("fewer", x.judge(0), -9);
-        fill(x, 0);
+        Rooms.fill(x, 0);
         is("none", x.judge(0), -9);
-        fill(x, 0, 1, 2, 6, 4, 0);
+        Rooms.fill(x, 0, 1, 2, 6, 4, 0);
         is("a PAIR that isn't there", x.judge(0), 4);
-        fill(x, 0, 1, 2, 4, 6);
+        Rooms.fill(x, 0, 1, 2, 4, 6);
         is("otherwise", x.judge(0), 2);
-        fill(x, 0, 2, 2, 6, 4);
+        Rooms.fill(x, 0, 2, 2, 6, 4);
         is("otherwise", x.judge(0), 0);
-        fill(x, 0, 1, 2, 6, 3, 9);
+        Rooms.fill(x, 0, 1, 2, 6, 3, 9);
         is("otherwise", x.judge(0), 3);
         refusals("judge", x, 1, 0, 0, 0, 0);
     }
@@ -938,29 +905,29 @@ public final class PromisesTest {
         SquareRooms x = new SquareRooms();
         is("sizes, missing", x.sizes(0), -11);
         is("sizes, no LIST", x.sizes(-1), -1);
-        fill(x, 0, 1, 2);
+        Rooms.fill(x, 0, 1, 2);
         is("1 2", x.sizes(0), 1);
-        fill(x, 0, 3, 2, 4, 1);
+        Rooms.fill(x, 0, 3, 2, 4, 1);
         is("3 2 4 1", x.sizes(0), 2);
-        fill(x, 0, 3, 1, 2, 6, 4, 5);
+        Rooms.fill(x, 0, 3, 1, 2, 6, 4, 5);
         is("3 1 2 6 4 5", x.sizes(0), 4);
-        fill(x, 0, 1, 8, 2, 7, 3, 6, 4, 5);
+        Rooms.fill(x, 0, 1, 8, 2, 7, 3, 6, 4, 5);
         is("the BOOK's of 9", x.sizes(0), 8);
-        fill(x, 0, 1, 10, 2, 9, 3, 8, 4, 7, 5, 6);
+        Rooms.fill(x, 0, 1, 10, 2, 9, 3, 8, 4, 7, 5, 6);
         is("the BOOK's of 11", x.sizes(0), 16);
-        fill(x, 0, 1, 12, 2, 11, 3, 10, 4, 9, 5, 8, 6, 7);
+        Rooms.fill(x, 0, 1, 12, 2, 11, 3, 10, 4, 9, 5, 8, 6, 7);
         is("the BOOK's of 13", x.sizes(0), 32);
-        fill(x, 0, 1, 14, 2, 13, 3, 12, 4, 11, 5, 10, 6, 9, 7, 8);
+        Rooms.fill(x, 0, 1, 14, 2, 13, 3, 12, 4, 11, 5, 10, 6, 9, 7, 8);
         is("the BOOK's of 15", x.sizes(0), 0);
         int[][] none = {{}, {1, 1}, {0, 1}, {1, 3}, {-1, 1}, {LOW, HIGH}, {33, 34}, {33, 2}, {1, 34}, {-31, 2}, {1, -30},
             {1, 98}, {97, 2}, {1, -94}, {-95, 2}, {2, 97}, {98, 1},
             {1, 2, 3, 4}, {1, 2, 1, 3},
             {1, 2, 3, 4, 5, 6}};
         for (int[] row : none) {
-            fill(x, 0, row);
+            Rooms.fill(x, 0, row);
             is("no STARTER", x.sizes(0), 0);
         }
-        fill(x, 0, 1, 2, 3);
+        Rooms.fill(x, 0, 1, 2, 3);
         is("an odd size", x.sizes(0), -3);
         is("count(0)", x.count(0), 7);
         refusals("sizes", x, 1, 0, 1, 0, 0);
@@ -969,7 +936,7 @@ public final class PromisesTest {
     // ---- the image
 
     private static void undo() {
-        SquareRooms x = bookTurned(1, 0);
+        SquareRooms x = Rooms.bookTurned(1, 0);
         is("undo(), none", x.undo(), -3);
         x.adder(0, 6);
         x.cell(3, 4, 0, 1);
@@ -1000,7 +967,7 @@ public final class PromisesTest {
     }
 
     private static void undoKeepsTwelve() {
-        SquareRooms x = ofSize(13, 1, 2);
+        SquareRooms x = Rooms.ofSize(13, 1, 2);
         for (int i = 0; i < 30; i++) {
             x.cell(i % 13, i / 13, 0, 1);
             is("count(5)", x.count(5), Math.min(12, i + 1));
@@ -1044,20 +1011,20 @@ public final class PromisesTest {
         x.on();
         is("ON leaves none", x.undo(), -3);
         x = withUndo();
-        told(x, "t000;");
+        Rooms.told(x, "t000;");
         is("a TEXT leaves none", x.undo(), -3);
         x = withUndo();
         x.pair(1, 2);
         x.size(8);
-        told(x, "n08;");
-        told(x, "n");
+        Rooms.told(x, "n08;");
+        Rooms.told(x, "n");
         x.turn(0, 2);
         x.still();
         x.image();
         x.list(0, 6);
         x.lays(0, 0);
         is("what is refused and what else there is leave all", x.undo(), 1);
-        SquareRooms refused = ofSize(13);
+        SquareRooms refused = Rooms.ofSize(13);
         refused.cell(0, 0, 1, 2);
         refused.drop();
         refused.book();
@@ -1088,7 +1055,7 @@ public final class PromisesTest {
         x.turn(1, 0);
         x.cell(0, 0, -1, 0);
         x.letter('n');
-        fill(x, 0, 4, 5);
+        Rooms.fill(x, 0, 4, 5);
         is("on()", x.on(), 3);
         pairIs("on", x, 0, 1, 6, 2);
         is("TURNS", x.count(2), 1);
