@@ -53,6 +53,7 @@ public final class FaceTest {
         for (Field field : SquareRooms.class.getDeclaredFields()) {
             DUE.holds("not private: " + field, Modifier.isPrivate(field.getModifiers()));
         }
+        fields(SquareRooms.class);
         for (Method method : SquareRooms.class.getDeclaredMethods()) {
             mayBe(method, names);
         }
@@ -85,17 +86,22 @@ public final class FaceTest {
 
     private static void inside(Class<?> inner, Set<String> names) {
         DUE.holds("not static: " + inner, Modifier.isStatic(inner.getModifiers()));
-        int fields = 0;
-        for (Field field : inner.getDeclaredFields()) {
-            boolean isStatic = Modifier.isStatic(field.getModifiers());
-            fields += isStatic ? 0 : 1;
-            DUE.holds("static, not final: " + field, !isStatic || Modifier.isFinal(field.getModifiers()));
-        }
-        DUE.holds("too many fields: " + inner, fields <= 20);
+        fields(inner);
         for (Method method : inner.getDeclaredMethods()) {
             DUE.holds("bears a public name: " + method, !names.contains(method.getName()));
             DUE.holds("too many parameters: " + method, method.getParameterCount() <= 7);
         }
+    }
+
+    private static void fields(Class<?> of) {
+        int fields = 0;
+        for (Field field : of.getDeclaredFields()) {
+            boolean isStatic = Modifier.isStatic(field.getModifiers());
+            fields += isStatic ? 0 : 1;
+            DUE.holds("static, not final: " + field, !isStatic || Modifier.isFinal(field.getModifiers()));
+            DUE.holds("static, no number: " + field, !isStatic || field.getType().isPrimitive());
+        }
+        DUE.holds("too many fields: " + of, fields <= 20);
     }
 
     private static void source(String source) {

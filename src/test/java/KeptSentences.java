@@ -276,7 +276,8 @@ final class KeptSentences {
         sizesIs(0, 1, 2, 1, 3, 1, 4);
         sizesIs(0, 1, 2, 2, 1);
         // beyond all NUMBERS, but alike in their last five bits
-        int[][] none = {{33, 34}, {33, 2}, {1, 34}, {-31, 2}, {1, -30}, {LOW + 1, 2}, {1, LOW + 2}, {4, 5}, {-2, -1}};
+        int[][] none = {{33, 34}, {33, 2}, {1, 34}, {-31, 2}, {1, -30}, {LOW + 1, 2}, {1, LOW + 2}, {4, 5}, {-2, -1},
+            {1, 98}, {97, 2}, {1, -94}, {-95, 2}, {2, 97}, {98, 1}};
         for (int[] numbers : none) {
             sizesIs(0, numbers);
         }
