@@ -290,8 +290,10 @@ public final class SquareRooms {
             return refuseLong(STATE);
         }
         search.goThroughStarters(state.pairs.modulus, -1);
-        int common = greatestCommon(search.strongOnes, search.found);
-        return (part == 0 ? search.strongOnes : search.found) / common;
+        // 0 by 1, if no STARTER is found
+        int below = Math.max(1, search.found);
+        int common = Math.max(1, greatestCommon(search.strongOnes, below));
+        return (part == 0 ? search.strongOnes : below) / common;
     }
 
     public int lots(int m, int z, int what) {

@@ -25,6 +25,7 @@ public final class FaceTest {
         String source = Files.readString(root.resolve("src/main/java/SquareRooms.java"));
         face(document);
         source(source);
+        divisors(bare(source));
         sections(document, source);
         makesNothing();
         DUE.end();
@@ -105,7 +106,7 @@ public final class FaceTest {
     }
 
     private static void source(String source) {
-        String bare = source.replaceAll("(?s)/\\*.*?\\*/", "").replaceAll("//[^\n]*", "");
+        String bare = bare(source);
         for (String word : FORBIDDEN) {
             DUE.holds("the source has " + word, !bare.contains(word));
         }
@@ -121,6 +122,25 @@ public final class FaceTest {
             start = isMethod ? i : start;
             DUE.holds("a method too long: line " + (i + 1), !lines[i].matches(" {4}( {4})?}") || i - start < 60 || start < 0);
         }
+    }
+
+    private static String bare(String source) {
+        return source.replaceAll("(?s)/\\*.*?\\*/", "").replaceAll("//[^\n]*", "");
+    }
+
+    /** LANGUAGE.md, 7: what divides is a constant, or where it comes from it can be seen that it isn't 0. */
+    private static void divisors(String bare) {
+        Matcher m = Pattern.compile("[/%]=? *([\\w(.]+)").matcher(bare);
+        int divisors = 0;
+        while (m.find()) {
+            String by = m.group(1);
+            boolean isConstant = by.matches("[1-9]\\d*|[A-Z][A-Z_]+");
+            boolean isLooked = Pattern.compile("\\bint " + Pattern.quote(by) + " = (Math\\.max\\(1, |[^;]*; "
+                + Pattern.quote(by) + " > \\d)").matcher(bare).find();
+            DUE.holds("a divisor that isn't looked at: " + m.group(), isConstant || isLooked);
+            divisors++;
+        }
+        DUE.holds("the source divides", divisors > 0);
     }
 
     /** What the interface says ahead of calls stands between those of the section before and these. */
